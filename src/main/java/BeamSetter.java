@@ -28,7 +28,6 @@ public final class BeamSetter {
 
     public BeamSetter() {
         tape = new Tape();
-        reader = new Reader();
         history = new History();
         group = new Group();
         totals = new Totals();
@@ -36,6 +35,7 @@ public final class BeamSetter {
         tried = new int[Piece.MOST];
         piece = new Piece();
         spare = new Piece();
+        reader = new Reader(tape.bytes, spare);
     }
 
     // ---- the TAPE and the TEXT
@@ -57,7 +57,7 @@ public final class BeamSetter {
             return NOT_THERE;
         }
         tape.size = 0;
-        if (!reader.read(tape.bytes, n, spare)) {
+        if (!reader.read(n, spare)) {
             return NONE;
         }
         Piece old = piece;
@@ -917,7 +917,7 @@ public final class BeamSetter {
 
         int fault;
         int place = NONE;
-        private int[] bytes;
+        private final int[] bytes;
         private int length;
         private int at;
         /** The number read last, and its place. */
@@ -928,9 +928,13 @@ public final class BeamSetter {
         private final boolean[] told = new boolean[3];
         private final boolean[] toldWide = new boolean[MOST_BEAMS + 1];
 
-        boolean read(int[] tape, int many, Piece into) {
-            bytes = tape;
-            length = Math.min(many, tape.length);
+        Reader(int[] bytes, Piece piece) {
+            this.bytes = bytes;
+            this.piece = piece;
+        }
+
+        boolean read(int many, Piece into) {
+            length = Math.min(many, bytes.length);
             at = 0;
             fault = 0;
             place = NONE;
@@ -970,11 +974,11 @@ public final class BeamSetter {
         }
 
         private boolean isDigitHere() {
-            return here() >= '0' && here() <= '9';
+            return at < length && bytes[at] >= '0' && bytes[at] <= '9';
         }
 
         private boolean isLetterHere() {
-            return here() >= 'a' && here() <= 'z';
+            return at < length && bytes[at] >= 'a' && bytes[at] <= 'z';
         }
 
         private void skipBlanks() {
@@ -998,21 +1002,19 @@ public final class BeamSetter {
             if (word >= NOTE && piece.size >= Piece.MOST) {
                 return fail(4, from);
             }
-            return readRest(word) && takeEnd();
+            boolean right;
+            switch (word) {
+                case METRE: right = readMetre(); break;
+                case SPLIT: right = readSplit(); break;
+                case KNEE: right = readKnee(); break;
+                case WIDE: right = readWide(); break;
+                default: right = readElement(word == NOTE); break;
+            }
+            return right && takeEnd();
         }
 
         private boolean isTooLate(int word) {
             return word < NOTE && (piece.size > 0 || word == METRE && told[SPLIT]);
-        }
-
-        private boolean readRest(int word) {
-            switch (word) {
-                case METRE: return readMetre();
-                case SPLIT: return readSplit();
-                case KNEE: return readKnee();
-                case WIDE: return readWide();
-                default: return readElement(word == NOTE);
-            }
         }
 
         private int takeWord() {
@@ -1188,6 +1190,7 @@ public final class BeamSetter {
         private static final int LONGEST = 44;
         private static final int SLOPE_COST = 6;
         private static final int STAFF_EDGE = 9;
+        private static final int BEAM_STEP = 3;
         /** The first NOTE's LENGTH is whole, from 10 to 44: so many L at most are ALLOWED by one slope. */
         private static final int MOST_LEVELS = 35;
         private static final int LENGTH_BITS = 24;
@@ -1196,6 +1199,8 @@ public final class BeamSetter {
         private static final int UGLINESS_AT = SLOPE_BITS + LENGTH_BITS + 2 * HEIGHT_BITS;
 
         int size;
+        /** The last NOTE. */
+        private int last;
         int span;
         int wanted;
         boolean kneed;
@@ -1222,7 +1227,8 @@ public final class BeamSetter {
                 heads[i] = positions[first + i];
                 beams[i] = piece.beamsOf(first + i);
             }
-            span = size > 0 ? xs[size - 1] : 0;
+            last = Math.max(0, size - 1);
+            span = size > 0 ? xs[last] : 0;
             decideWays(knee);
             decideWant();
             for (int i = 0; i < size; i++) {
@@ -1248,18 +1254,18 @@ public final class BeamSetter {
             int found = NOTHING;
             int greatest = knee;
             int nearest = Integer.MAX_VALUE;
-            int last = NOTHING;
+            int before = NOTHING;
             // From below, so that of gaps alike the lowest one stays.
             for (int p = -FARTHEST; p <= FARTHEST; p++) {
                 if (taken[p + FARTHEST]) {
-                    int gap = last == NOTHING ? 0 : p - last;
-                    int middle = Math.abs(p + last);
+                    int gap = before == NOTHING ? 0 : p - before;
+                    int middle = Math.abs(p + before);
                     if (gap > greatest || gap == greatest && middle < nearest) {
-                        found = last;
+                        found = before;
                         greatest = gap;
                         nearest = middle;
                     }
-                    last = p;
+                    before = p;
                 }
             }
             return found;
@@ -1270,8 +1276,9 @@ public final class BeamSetter {
                 taken[i] = false;
             }
             for (int i = 0; i < size; i++) {
-                if (isPosition(heads[i])) {
-                    taken[heads[i] + FARTHEST] = true;
+                int at = heads[i] + FARTHEST;
+                if (at >= 0 && at < taken.length) {
+                    taken[at] = true;
                 }
             }
         }
@@ -1291,9 +1298,9 @@ public final class BeamSetter {
 
         private void decideWant() {
             int from = heads[0];
-            int to = size > 0 ? heads[size - 1] : from;
+            int to = heads[last];
             wanted = Math.max(-MOST_WANT, Math.min(MOST_WANT, to - from));
-            for (int i = 1; i < size - 1 && !kneed; i++) {
+            for (int i = 1; i < last && !kneed; i++) {
                 boolean nearer = ways[0] > 0 ? heads[i] > Math.max(from, to) : heads[i] < Math.min(from, to);
                 wanted = nearer ? 0 : wanted;
             }
@@ -1370,17 +1377,20 @@ public final class BeamSetter {
 
         /** What the BEAMS at an end cost, the first one at this height, the beam rising so from there. */
         private int staffAtEnd(int end, int height, int rise) {
-            int many = beamsAtEnd(end);
+            int note = end == 0 ? 0 : last;
             int sum = 0;
-            for (int k = 0; k < many; k++) {
-                int at = beamHeight(end, height, k);
-                sum += isOnStaff(at) ? touchCost(Math.floorMod(at, 4), rise) : 0;
+            for (int k = 0; k < beams[note]; k++) {
+                sum += touchCost(height - ways[note] * BEAM_STEP * k, rise);
             }
             return sum;
         }
 
-        private static int touchCost(int place, int rise) {
-            switch (place) {
+        private static int touchCost(int height, int rise) {
+            if (height < -STAFF_EDGE || height > STAFF_EDGE) {
+                return 0;
+            }
+            // The two lowest bits: modulo 4, of heights below 0, too.
+            switch (height & 3) {
                 case 0: return rise == 0 ? 2 : 1;
                 case 1: return rise < 0 ? 8 : 0;
                 case 2: return 25;
@@ -1392,16 +1402,13 @@ public final class BeamSetter {
             return height >= -STAFF_EDGE && height <= STAFF_EDGE;
         }
 
-        private int noteAtEnd(int end) {
-            return end == 0 ? 0 : Math.max(0, size - 1);
-        }
-
         int beamsAtEnd(int end) {
-            return beams[noteAtEnd(end)];
+            return beams[end == 0 ? 0 : last];
         }
 
+        /** Of the k-th BEAM at an end, the first one being at L, at R. */
         int beamHeight(int end, int first, int k) {
-            return first - ways[noteAtEnd(end)] * 3 * k;
+            return first - ways[end == 0 ? 0 : last] * BEAM_STEP * k;
         }
 
         int mostBeams() {
