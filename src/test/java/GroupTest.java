@@ -224,6 +224,12 @@ public final class GroupTest {
         CHECKS.due("no such what goes first", NONE, x.ugliness(0, 0, 0, 4));
         CHECKS.due("no such GROUP", NONE, x.ugliness(1, -14, -14, 0));
         CHECKS.due("no such GROUP", NONE, x.ugliness(-1, -14, -14, 0));
+        // 11 at least of 2 BEAMS, 13 of 3, of each NOTE.
+        ugly("2 BEAMS", Checks.setter("note 16 0;note 16 0;"), -11, -11, 20, 16, 0, 4);
+        ugly("2 BEAMS", Checks.setter("note 16 0;note 16 0;"), -11, -10, -2, -2, -2, -2);
+        ugly("3 BEAMS", Checks.setter("note 32 0;note 32 0;"), -13, -13, 16, 16, 0, 0);
+        ugly("3 BEAMS", Checks.setter("note 32 0;note 32 0;"), -12, -13, -2, -2, -2, -2);
+        ugly("of each NOTE", Checks.setter("note 32 0;note 8 0;"), -13, -10, 34, 16, 18, 0);
         // A slope against WANT: 6 times 4 and 20; a slope of 0 is against nothing.
         ugly("against", Checks.setter("note 8 0;note 8 3;"), -12, -13, 53, 9, 44, 0);
         ugly("level", Checks.setter("note 8 0;note 8 3;"), -12, -12, 26, 8, 18, 0);
@@ -315,6 +321,10 @@ public final class GroupTest {
         BeamSetter y = Checks.setter("note 8 -5;note 8 -5;");
         CHECKS.due("as ugly", y.ugliness(0, 10, 11, 0), y.ugliness(0, 11, 10, 0));
         CHECKS.due("UP, L least", 1, y.rank(0, 11, 10) - y.rank(0, 10, 11));
+        // WANT is 1: a level beam costs 6 and is the BEST, for one of slope 1 costs 6, too, by stems and staff.
+        BeamSetter w = Checks.setter("metre 2 2;split 2;note 32 -2;note 32 -2;note 16 -1;note 16 -1;");
+        CHECKS.dueAll("the level one", bests(w, 0), 13, 13, 6, 0, 6, 0);
+        CHECKS.dueAll("the sloping one", rankeds(w, 0, 1), 14, 15, 6, 5, 0, 1);
         // UGLINESS 34 of both: unlike by 1 goes ahead of unlike by 2, though its stems are longer.
         BeamSetter z = Checks.setter(STUBS);
         CHECKS.due("as ugly", z.ugliness(0, -18, -16, 0), z.ugliness(0, -19, -18, 0));

@@ -129,7 +129,7 @@ public final class RandomRunsTest {
 
     private static String someElements(int measure) {
         StringBuilder text = new StringBuilder();
-        int many = once(6) ? between(40, 64) : between(0, 24);
+        int many = once(6) ? (once(2) ? 64 : between(40, 64)) : between(0, 24);
         int style = pick(5);
         int middle = between(-8, 8);
         int reach = new int[] {2, 4, 8, 12, 24}[pick(5)];
@@ -284,7 +284,7 @@ public final class RandomRunsTest {
     }
 
     public static void main(String[] args) {
-        int runs = args.length > 0 ? Integer.parseInt(args[0]) : 60;
+        int runs = args.length > 0 ? Integer.parseInt(args[0]) : 150;
         int first = args.length > 1 ? Integer.parseInt(args[1]) : 1;
         for (int seed = first; seed < first + runs && wrong < 20; seed++) {
             run(seed, 300);

@@ -76,6 +76,9 @@ public final class WhatIfTest {
         CHECKS.due("wish(0)", -1, x.wish(0));
         CHECKS.due("wish(1)", 2, x.wish(1));
         CHECKS.due("its own", 12, x.wish(2));
+        BeamSetter tied = Checks.setter("metre 2 2;split 2;note 8 6;note 32 4;");
+        CHECKS.due("2 and 6 are as near and as ugly", tied.ifPut(1, 2, 2), tied.ifPut(1, 6, 2));
+        CHECKS.due("the lower one", 2, tied.wish(1));
         CHECKS.due("of no GROUP", NOTHING, x.wish(4));
         CHECKS.due("a rest", NOTHING, x.wish(5));
         CHECKS.due("kind 4", NOTHING, x.wish(6));
@@ -211,6 +214,7 @@ public final class WhatIfTest {
         BeamSetter x = Checks.setter(SINGLES);
         CHECKS.due("alone(0)", 3, x.alone(0));
         CHECKS.due("alone(1)", 2, x.alone(1));
+        CHECKS.due("the first ELEMENT", 0, Checks.setter("note 8 1;rest 8;note 16 1;").alone(1));
         CHECKS.due("none", -2, Checks.setter(THREE).alone(1));
         CHECKS.due("none", 0, Checks.setter(THREE).alone(0));
         CHECKS.due("no such what", NONE, x.alone(2));
@@ -342,6 +346,7 @@ public final class WhatIfTest {
         smoothed(x, 5, 0, -10, -10, 0, 0);
         smoothed(x, 5, 1, -5, -5, 6, 2);
         smoothed(x, 7, 1, -3, -3, 2, 0);
+        smoothed(x, 120, 1, -3, -3, 2, 0);
         smoothed(x, 121, 0, NOTHING, NOTHING, NOTHING, NOTHING);
         smoothed(x, -1, 0, NOTHING, NOTHING, NOTHING, NOTHING);
         smoothed(x, 0, 2, NOTHING, NOTHING, NOTHING, NOTHING);
