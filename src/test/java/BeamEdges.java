@@ -1,6 +1,7 @@
 /** Part 2 of the terms, up to the STUBS: heads, BEAMS, GROUPS, SETTINGS, how they are judged and sorted. */
 final class BeamEdges {
     private static final int NONE = BeamSetter.NONE;
+    private static final int NOTHING = BeamSetter.NOTHING;
     private static final int NOT_ALLOWED = -2;
     private static final int LEAST = Integer.MIN_VALUE;
     private static final int MOST = Integer.MAX_VALUE;
@@ -281,6 +282,9 @@ final class BeamEdges {
         edges.due("0, a third, two thirds, 1", 2, four.ugliness(0, -14, -15, 1));
         // 12 of 28 and 1 longer, twice 1 shorter than the 15 of two BEAMS.
         edges.due("3 and 12 by 28", 3, Scores.beam("16 0", "8 0", "8 0").ugliness(0, -14, -15, 1));
+        // IDEAL, 10 by 11 longer than the 15 of two BEAMS, 3 longer: less than 4 by 1 of 11.
+        BeamSetter elevenths = Checks.setter("wide 8 7;wide 16 4;" + Scores.underOne("8 0", "16 0", "8 0"));
+        edges.due("3 and 10 by 11", 3, elevenths.ugliness(0, -14, -17, 1));
         // 1 longer, twice 16 of 28 shorter than the 15 of two BEAMS, and IDEAL.
         edges.due("2 and 4 by 28", 2, Scores.beam("8 0", "16 0", "8 0").ugliness(0, -15, -14, 1));
     }
@@ -322,6 +326,12 @@ final class BeamEdges {
         for (int[] s : ofRise) {
             edges.due("WANT -3, slope " + -s[0], s[1], fall.ugliness(0, -12 + s[0], -12, 2));
         }
+        BeamSetter one = Scores.beam("8 0", "8 1");
+        edges.dueAll("WANT 1, slopes 1, 0, -1", new int[] {one.ugliness(0, -14, -13, 2), one.ugliness(0, -14, -14, 2),
+            one.ugliness(0, -14, -15, 2)}, 0, 6, 32);
+        BeamSetter less = Scores.beam("8 1", "8 0");
+        edges.dueAll("WANT -1, slopes -1, 0, 1", new int[] {less.ugliness(0, -14, -15, 2), less.ugliness(0, -14, -14, 2),
+            less.ugliness(0, -14, -13, 2)}, 0, 6, 32);
         BeamSetter flat = Checks.setter(Scores.FLAT);
         for (int slope = -8; slope <= 8; slope++) {
             edges.due("WANT 0, slope " + slope, 6 * Math.abs(slope), flat.ugliness(0, -20, -20 + slope, 2));
@@ -450,6 +460,13 @@ final class BeamEdges {
         // 30 and 22 longer than IDEAL, 48 for a slope of 8; of -36, -44, which is as ugly, L is greater.
         edges.dueAll("the last", new int[] {flat.ranked(0, 522, 0), flat.ranked(0, 522, 1), flat.ranked(0, 522, 2)},
                 -44, -36, 100);
+        // UP at 0, 10 at least, and DOWN at 6, 2 at most: by slopes of 8 one alone.
+        edges.dueAll("slope -8", Scores.bests(Scores.beamOfKnee(4, "8 0", "8 6"), 0), 10, 2, 139, 16, 98, 25);
+        edges.dueAll("slope 8", Scores.bests(Scores.beamOfKnee(4, "8 6", "8 0"), 0), 2, 10, 139, 16, 98, 25);
+        // DOWN: -26, -25 at most at the end, so -20 at least at the second one asks for a slope of 9 and more.
+        BeamSetter steep = Checks.setter("knee 13;wide 8 7;wide 16 4;" + Scores.underOne("8 7", "16 12", "8 -4", "16 -7"));
+        edges.due("a slope beyond 8 alone", NOTHING, steep.best(0, 0));
+        edges.due("a slope beyond 8 alone, ALLOWED", 0, steep.group(0, 5));
         // Of one SETTING alone the BEST is the last, too.
         BeamSetter one = Scores.beam("8 0", "16 10", "8 -10", "8 0");
         edges.due("one alone is ALLOWED", 1, one.group(0, 5));
@@ -492,6 +509,9 @@ final class BeamEdges {
         BeamSetter y = Checks.setter("note 16 0;note 16 0;note 16 0;note 16 0;note 16 0;note 16 0;");
         edges.due("RIGHT of the last, a GROUP behind", 0, y.beams(3, 1));
         edges.due("LEFT of the first, a GROUP ahead", 0, y.beams(4, 0));
+        BeamSetter apart = Checks.setter("note 16 0;note 16 0;rest 16;note 16 0;rest 16;note 16 0;note 16 0;");
+        edges.due("RIGHT of the last, a rest behind", 0, apart.beams(1, 1));
+        edges.due("LEFT of the first, a rest ahead", 0, apart.beams(5, 0));
 
         edges.terms(2, "STUBS: BEAMS less the greater of both: they go to the right of the first NOTE, to the left of the "
                 + "last;");
@@ -502,6 +522,11 @@ final class BeamEdges {
         edges.dueAll("the first, at an odd TIME", Scores.beams(Checks.setter("split 4;rest 32;note 32 0;note 8 0;"), 1),
                 0, 1, 0, 2);
         edges.dueAll("the last, at an even TIME", Scores.beams(Checks.setter("split 4;note 8 0;note 16 0;"), 1), 1, 0, 1, 0);
+        // TIMES 2, 6 | 8, 9 | 16, 20: what is of another GROUP is no neighbour, whatever its BEAMS.
+        BeamSetter beyond = Checks.setter("rest 16;note 8 0;note 16 0;note 32 0;note 32 0;rest 16;rest 8;note 16 0;note 8 0;");
+        edges.dueAll("the last, one of 3 BEAMS behind", Scores.beams(beyond, 2), 1, 0, 1, 0);
+        BeamSetter ahead = Checks.setter("rest 8;rest 16;note 32 0;note 32 0;note 16 0;note 8 0;");
+        edges.dueAll("the first, one of 3 BEAMS ahead", Scores.beams(ahead, 4), 0, 1, 0, 1);
         edges.dueAll("the greater of both is its own", Scores.beams(Scores.beam("8 0", "16 0", "32 0"), 1), 1, 2, 0, 0);
 
         edges.terms(2, "else to that neighbour that has more BEAMS; of as many: left, if its TIME within the MEASURE by its "
@@ -513,6 +538,13 @@ final class BeamEdges {
         for (int more = 0; more < dues.length; more++) {
             String text = "metre 12 2;split 12;" + Checks.repeated("rest 32;", more) + "note 8 0;note 16 1;note 8 2;";
             edges.dueAll("as many, TIME " + (4 + more), Scores.beams(Checks.setter(text), more + 1), dues[more]);
+        }
+        String[] aheadOf = {"", "rest 32;", "rest 16;"};
+        int[][] duesOf = {{1, 1, 0, 2}, {1, 1, 2, 0}, {1, 1, 0, 2}};
+        for (int more = 0; more < aheadOf.length; more++) {
+            String text = "metre 12 2;split 12;" + aheadOf[more] + "note 8 0;note 32 1;note 8 2;";
+            edges.dueAll("two STUBS, TIME " + (4 + more) + " by LONG 1",
+                    Scores.beams(Checks.setter(text), more == 0 ? 1 : 2), duesOf[more]);
         }
         edges.dueAll("two STUBS, TIME 4 by LONG 1", Scores.beams(Scores.beam("8 0", "32 0", "8 0"), 1), 1, 1, 0, 2);
         // LONG goes into a MEASURE an even number of times, so MEASURES ahead change nothing.

@@ -288,6 +288,9 @@ final class GroupEdges {
         // A height of 0 is 0 by 1.
         edges.dueAll("the last of RISE", Scores.stems(Checks.setter(Scores.RISE), 1), 16, 1, 0, 1);
         edges.dueAll("level", Scores.stems(Checks.setter(Scores.FLAT), 1), 14, 1, -14, 1);
+        // The BEST is -14, -13; x is 7 of 11: nothing to be lowered.
+        edges.dueAll("elevenths", Scores.stems(Checks.setter("wide 8 7;wide 16 4;" + Scores.underOne("8 0", "16 0", "8 1")), 1),
+                147, 11, -147, 11);
         // The BEST is -14, -13; x is 16 of 28: -14 and 4 by 7.
         edges.dueAll("sevenths", Scores.stems(Scores.beam("8 0", "16 0", "8 1"), 1), 94, 7, -94, 7);
 

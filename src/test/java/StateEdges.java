@@ -30,6 +30,10 @@ final class StateEdges {
         } catch (NoSuchElementException e) {
             return 1000001;
         } catch (IndexOutOfBoundsException e) {
+            // What the machine throws is of a class below this one.
+            if (e.getClass() != IndexOutOfBoundsException.class) {
+                throw e;
+            }
             return 1000002;
         }
     }
@@ -146,6 +150,63 @@ final class StateEdges {
         for (int call = 1; call <= MOST_CALLS; call++) {
             edges.due("feed, call " + call, call <= 45 ? 20 * call : NONE, z.feed(0, 0, 0, 0, 0));
         }
+    }
+
+    // ---- as many ELEMENTS as can be
+
+    private void full() {
+        edges.terms(1, "64 at most together");
+        BeamSetter x = Scores.beam(Scores.many(64, "32 0"));
+        edges.dueAll("group", Scores.groups(x, 0), 0, 64, 0, 63 * 9, 3, 32 + 2 * (31 + 30 + 29 + 28 + 27 + 26 + 25 + 24), 0);
+        edges.dueAll("best", Scores.bests(x, 0), -17, -17, 0, 0, 0, 0);
+        edges.dueAll("the last one", new int[] {x.direction(63), x.ideal(63), x.put(63, 0), x.undo(), x.wish(63)},
+                -1, 17, 0, 0, 0);
+        edges.dueAll("its stem", Scores.stems(x, 63), 17, 1, -17, 1);
+        edges.dueAll("its BEAMS", Scores.beams(x, 63), 3, 0, 0, 0);
+        edges.dueAll("touch, rank", new int[] {x.touch(0, 1, 2), x.rank(0, -17, -17), x.ranked(0, 0, 1)}, -3, 0, -17);
+        edges.dueAll("what would be", new int[] {x.ifPut(63, 0, 0), x.ifShifted(0, 0), x.shift(), x.mirrored(0),
+            x.ifKnee(24, 3), x.ifParts(1), x.ifParts(12)}, -17, 0, 0, 0, 0, 4, 1);
+        edges.dueAll("STRETCHES", new int[] {x.stretches(0, 3), x.stretch(0, 3, 0, 1), x.stretch(0, 1, 1, 0)}, 1, 63, -2);
+        edges.dueAll("CUT", new int[] {x.ifCut(0, 1), x.ifCut(0, 63), x.ifCut(0, 64), x.cut(0)}, 0, 0, NONE, 1);
+        edges.dueAll("others", new int[] {x.level(0, 0), x.smooth(0, 0), x.smoothed(0, 0, 1), x.extreme(0, 0),
+            x.extreme(0, 1), x.alone(0), x.total(2), x.count(4)}, -17, 0, -17, 0, 0, 0, 0, 1);
+        edges.due("UP, all of them", 64, Scores.beam(Scores.many(64, "16 -1")).group(0, 6));
+        edges.due("STUBS of the last", 2, Checks.setter("metre 12 2;split 12;" + Checks.repeated("rest 32;", 62)
+                + "note 8 0;note 32 0;").beams(63, 2));
+        // Alone from 0 to 63.
+        BeamSetter y = Checks.setter("metre 1 8;" + Checks.repeated("note 8 1;", 64));
+        edges.dueAll("of no GROUP", new int[] {y.alone(0), y.single(63, 1), y.direction(63), y.beams(63, 0), y.shift()},
+                64, 14, 0, -2, NOTHING);
+    }
+
+    // ---- one TEXT behind another
+
+    private void anew() {
+        edges.promise(3, "all anew");
+        // Four GROUPS that cost something, then none, one, two: nothing of what was found ahead is left.
+        String four = "note 8 2;note 8 2;note 8 6;note 8 6;note 8 -6;note 8 -6;note 8 8;note 8 1;";
+        BeamSetter x = Checks.setter(four);
+        edges.due("smooth(0, 0) of four", 1, x.smooth(0, 0) == -2 || x.smooth(0, 0) > 0 ? 1 : 0);
+        edges.due("smooth(120, 0) of four", x.total(0), x.smooth(120, 0));
+        Checks.say(x, "note 8 2;");
+        edges.dueAll("of none", new int[] {x.smooth(0, 0), x.smooth(120, 0), x.smooth(0, 1), x.total(0), x.total(2)},
+                0, 0, 0, 0, -2);
+        Checks.say(x, four);
+        x.smooth(120, 0);
+        Checks.say(x, Scores.RISE);
+        edges.dueAll("of one", new int[] {x.smooth(0, 0), x.smoothed(0, 0, 0), x.smoothed(0, 0, 3)}, 16, -4, 0);
+        Checks.say(x, four);
+        x.smooth(120, 0);
+        Checks.say(x, "note 8 2;note 8 2;note 8 6;note 8 6;");
+        edges.dueAll("of two", new int[] {x.smooth(0, 0), x.smooth(7, 0), x.total(0), x.total(2)}, 16, 2, 2, 1);
+        // A GROUP of three BEAMS, eight NOTES, then one of one BEAM, two.
+        BeamSetter y = Checks.setter("note 32 -1;".repeat(8) + Scores.FLAT);
+        edges.due("most BEAMS", 3, y.group(0, 4));
+        edges.due("most BEAMS of the next", 1, y.group(1, 4));
+        edges.due("UP", 8, y.group(0, 6));
+        edges.due("UP of the next", 0, y.group(1, 6));
+        Checks.say(y, Scores.FLAT);
+        edges.dueAll("GROUP 0", Scores.groups(y, 0), 0, 2, 0, 16, 1, 523, 0);
     }
 
     // ---- Terms, part 3
@@ -283,6 +344,8 @@ final class StateEdges {
 
     void check() {
         calls();
+        full();
+        anew();
         asking();
         order();
         undoing();

@@ -122,6 +122,19 @@ final class TextEdges {
         for (String text : others) {
             edges.fault(1, 0, text);
         }
+        String[] words = {"metre", "split", "knee", "wide", "note", "rest"};
+        String[] numbers = {" 4 4;", " 4;", " 9;", " 8 9;", " 8 1;", " 8;"};
+        for (int w = 0; w < words.length; w++) {
+            edges.right(1, words[w] + numbers[w]);
+            for (int at = 0; at < words[w].length(); at++) {
+                edges.fault(1, 0, words[w].substring(0, at) + 'x' + words[w].substring(at + 1) + numbers[w]);
+                edges.fault(1, 0, words[w].substring(0, at) + words[w].substring(at + 1) + numbers[w]);
+            }
+            edges.fault(1, 0, words[w] + 'a' + numbers[w]);
+            edges.fault(1, 0, words[w] + 'z' + numbers[w]);
+            edges.fault(1, 0, 'a' + words[w] + numbers[w]);
+            edges.fault(1, 0, 'z' + words[w] + numbers[w]);
+        }
         edges.right(2, "note8 1;rest4;");
         edges.fault(1, 4, "restA4;");
         // The signs next to a and z, to 0 and 9.

@@ -97,6 +97,15 @@ final class WhatIfEdges {
         BeamSetter never = Checks.setter(Scores.NEVER);
         edges.due("the lowest there is", -12, never.wish(0));
         edges.due("the highest there is", 12, never.wish(3));
+        BeamSetter far = Scores.beamOfKnee(4, "32 -12", "16 12");
+        edges.due("from the lowest to the highest", 12, far.wish(0));
+        edges.due("from the highest to the lowest", -12, far.wish(1));
+        for (int p = -12; p <= 12; p++) {
+            for (int q = -12; q <= 12; q++) {
+                BeamSetter x = Scores.beamOfKnee(9, "8 " + p, "16 " + q);
+                edges.due("wish(0) of " + p + " " + q, wished(x, 0), x.wish(0));
+            }
+        }
 
         edges.promise(22, "NOTHING: it is of none, no such ELEMENT, by none one would be ALLOWED.");
         BeamSetter x = Checks.setter(APART);
@@ -110,6 +119,39 @@ final class WhatIfEdges {
         // UP, 12 asks for a beam at 34 at least, -12 for one at 20 at most; DOWN for -20 at least, -34 at most.
         edges.due("by none", NOTHING, Scores.beamOfKnee(24, "8 12", "8 0", "8 -12", "8 0").wish(3));
         edges.due("without ELEMENTS", NOTHING, new BeamSetter().wish(0));
+    }
+
+    /** From far to near, of as near the higher one first: the later one stays, if it is not uglier. */
+    private static int wished(BeamSetter x, int i) {
+        int found = NOTHING;
+        int least = MOST;
+        for (int away = 24; away >= 0; away--) {
+            for (int sign = 1; sign >= -1; sign -= 2) {
+                int ugly = x.ifPut(i, x.position(i) + sign * away, 2);
+                if (ugly != NOTHING && ugly <= least) {
+                    least = ugly;
+                    found = x.position(i) + sign * away;
+                }
+            }
+        }
+        return found;
+    }
+
+    /** The t with the fewest aside, then the least UGLINESS, then nearest to 0, then lower. */
+    private static int shifted(BeamSetter x) {
+        int found = NOTHING;
+        long least = Long.MAX_VALUE;
+        for (int away = 12; away >= 0; away--) {
+            for (int sign = 1; sign >= -1; sign -= 2) {
+                int aside = x.ifShifted(sign * away, 1);
+                long worth = aside * 1000000L + x.ifShifted(sign * away, 0);
+                if (aside != NONE && worth <= least) {
+                    least = worth;
+                    found = sign * away;
+                }
+            }
+        }
+        return found;
     }
 
     // ---- all notes elsewhere
@@ -185,6 +227,13 @@ final class WhatIfEdges {
             boolean is = aside.ifShifted(t, 1) == 0;
             edges.due("of those with fewer aside the least UGLINESS, " + t, 1,
                     !is || aside.ifShifted(t, 0) >= aside.ifShifted(aside.shift(), 0) ? 1 : 0);
+        }
+
+        for (int p = -12; p <= 12; p++) {
+            for (int q = -12; q <= 12; q++) {
+                BeamSetter x = Scores.beamOfKnee(9, "8 " + p, "8 " + q);
+                edges.due("shift() of " + p + " " + q, shifted(x), x.shift());
+            }
         }
 
         edges.promise(24, "NOTHING: there are no GROUPS.");
@@ -374,6 +423,11 @@ final class WhatIfEdges {
         edges.due("STUBS make none", 0, Scores.beam("8 0", "32 0", "8 0").stretches(0, 2));
         edges.due("two with one NOTE between", 2, Scores.beam("16 0", "16 0", "8 0", "16 0", "16 0").stretches(0, 2));
         edges.due("many", 21, Scores.beam(thirds()).stretches(0, 2));
+        BeamSetter next = Checks.setter(Checks.repeated("note 16 0;", 12));
+        for (int g = 0; g < 3; g++) {
+            edges.due("of each GROUP its own, " + g, 1, next.stretches(g, 2));
+            edges.due("no more than its own, " + g, -2, next.stretch(g, 2, 1, 0));
+        }
         edges.due("of three BEAMS, BEAM 3", 1, Scores.beam("32 0", "32 0").stretches(0, 3));
         edges.due("none is ALLOWED", 1, Checks.setter(Scores.NEVER).stretches(0, 1));
 
@@ -605,12 +659,23 @@ final class WhatIfEdges {
         edges.dueAll("by 5", smootheds(x, 5, 1), -5, -5, 6, 2);
         edges.dueAll("by 120", smootheds(x, 120, 1), -3, -3, 2, 0);
         edges.dueAll("sloping", smootheds(Checks.setter(Scores.RISE), 0, 0), -4, 0, 16, 0);
+        edges.dueAll("the only one", smootheds(Checks.setter(STEEP), 0, 0), 10, 2, 139, 0);
+        for (int n = 8; n <= 14; n++) {
+            for (int g = 0; g < 3; g++) {
+                int[] own = smootheds(far, n, g);
+                edges.due("RANK by " + n + " of " + g, far.rank(g, own[0], own[1]), own[3]);
+                edges.due("UGLINESS by " + n + " of " + g, far.ugliness(g, own[0], own[1], 0), own[2]);
+                edges.due("step by " + n + " to " + g, 1,
+                        g == 0 || Math.abs(far.smoothed(n, g - 1, 1) - own[0]) <= n ? 1 : 0);
+            }
+        }
 
         edges.promise(35, "NOTHING: it can't be, no such n, GROUP, what.");
         edges.dueAll("it can't be", smootheds(far, 7, 0), NOTHING, NOTHING, NOTHING, NOTHING);
         edges.dueAll("none is ALLOWED of another", smootheds(never, 120, 1), NOTHING, NOTHING, NOTHING, NOTHING);
         for (int n : none) {
             edges.due("smoothed(" + n + ", 0, 0)", NOTHING, x.smoothed(n, 0, 0));
+            edges.due("smoothed(" + n + ", 0, 0) of one", NOTHING, Checks.setter(Scores.RISE).smoothed(n, 0, 0));
         }
         int[] groups = {-1, 2, 32, MOST, LEAST};
         for (int g : groups) {
@@ -633,6 +698,15 @@ final class WhatIfEdges {
         edges.dueAll("as long", new int[] {flat.extreme(0, 0), flat.extreme(0, 1)}, 1, 1);
         BeamSetter x = Checks.setter("rest 4;note 16 4;note 16 5;note 16 6;note 16 -12;");
         edges.dueAll("between", new int[] {x.extreme(0, 0), x.extreme(0, 1)}, 1, 3);
+        // The BEST is -4, -7: 12, 131 by 11, 15.
+        BeamSetter near = Checks.setter("knee 4;wide 8 7;wide 16 4;" + Scores.underOne("8 -8", "16 3", "8 -11"));
+        edges.dueAll("stem(1)", new int[] {near.stem(1, 0), near.stem(1, 1)}, 131, 11);
+        edges.due("shorter by 1 of 11", 1, near.extreme(0, 0));
+        // 476, 532, 533, 442 by 34.
+        BeamSetter long34 = Scores.beamOfKnee(10, "8 -11", "32 5", "32 -10", "32 5");
+        edges.dueAll("stems", new int[] {long34.stem(1, 0) * 34 / long34.stem(1, 1), long34.stem(2, 0) * 34 / long34.stem(2, 1)},
+                532, 533);
+        edges.due("longer by 1 of 34", 2, long34.extreme(0, 1));
         // The BEST is -14, -14: 16, 14, 14, 16.
         BeamSetter pairs = Scores.beam("8 1", "8 0", "8 0", "8 1");
         edges.dueAll("two and two as long", new int[] {pairs.extreme(0, 0), pairs.extreme(0, 1)}, 1, 0);
