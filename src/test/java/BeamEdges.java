@@ -96,6 +96,9 @@ final class BeamEdges {
         waysOf(24, at(12, -12), -1, 1);
         waysOf(24, at(12, -11), -1, -1);
         waysOf(4, at(3, 3), -1, -1);
+        for (int p = -12; p <= 12; p++) {
+            edges.due("no gap at all, KNEED", 0, Scores.beamOfKnee(4, "8 " + p, "8 " + p).group(0, 2));
+        }
         // In time -4 and 8 are neighbours, in order 2 lies between: no gap of more than 6.
         waysOf(9, at(-4, 8, 2), -1, -1, -1);
         waysOf(6, at(-4, 8, 2), 1, -1, -1);
@@ -285,6 +288,8 @@ final class BeamEdges {
         // IDEAL, 10 by 11 longer than the 15 of two BEAMS, 3 longer: less than 4 by 1 of 11.
         BeamSetter elevenths = Checks.setter("wide 8 7;wide 16 4;" + Scores.underOne("8 0", "16 0", "8 0"));
         edges.due("3 and 10 by 11", 3, elevenths.ugliness(0, -14, -17, 1));
+        // 1 shorter, 1 by 11 shorter, 2 longer.
+        edges.due("4 and 2 by 11", 4, elevenths.ugliness(0, -13, -16, 1));
         // 1 longer, twice 16 of 28 shorter than the 15 of two BEAMS, and IDEAL.
         edges.due("2 and 4 by 28", 2, Scores.beam("8 0", "16 0", "8 0").ugliness(0, -15, -14, 1));
     }
@@ -302,11 +307,13 @@ final class BeamEdges {
                 + "DOWN: below both).");
         edges.due("DOWN, below both", 0, Scores.beam("8 3", "8 0", "8 1").want(0));
         edges.due("DOWN, as low as one", -2, Scores.beam("8 3", "8 1", "8 1").want(0));
-        edges.due("DOWN, below one", -2, Scores.beam("8 3", "8 2", "8 1").want(0));
+        edges.due("DOWN, below the first one", -2, Scores.beam("8 3", "8 2", "8 1").want(0));
+        edges.due("DOWN, below the last one", 2, Scores.beam("8 1", "8 2", "8 3").want(0));
         edges.due("DOWN, above both", -2, Scores.beam("8 3", "8 4", "8 1").want(0));
         edges.due("UP, above both", 0, Scores.beam("8 -3", "8 0", "8 -1").want(0));
         edges.due("UP, as high as one", 2, Scores.beam("8 -3", "8 -1", "8 -1").want(0));
-        edges.due("UP, above one", 2, Scores.beam("8 -3", "8 -2", "8 -1").want(0));
+        edges.due("UP, above the first one", 2, Scores.beam("8 -3", "8 -2", "8 -1").want(0));
+        edges.due("UP, above the last one", -2, Scores.beam("8 -1", "8 -2", "8 -3").want(0));
         edges.due("UP, below both", 2, Scores.beam("8 -3", "8 -4", "8 -1").want(0));
         edges.due("KNEED, above both", 1, Scores.beam("8 -3", "8 9", "8 -2").want(0));
         edges.due("KNEED, below both", 2, Scores.beam("8 3", "8 -9", "8 5").want(0));
@@ -467,6 +474,9 @@ final class BeamEdges {
         BeamSetter steep = Checks.setter("knee 13;wide 8 7;wide 16 4;" + Scores.underOne("8 7", "16 12", "8 -4", "16 -7"));
         edges.due("a slope beyond 8 alone", NOTHING, steep.best(0, 0));
         edges.due("a slope beyond 8 alone, ALLOWED", 0, steep.group(0, 5));
+        BeamSetter turned = Checks.setter("knee 13;wide 8 7;wide 16 4;" + Scores.underOne("8 -7", "16 -12", "8 4", "16 7"));
+        edges.due("turned", NOTHING, turned.best(0, 0));
+        edges.due("turned, ALLOWED", 0, turned.group(0, 5));
         // Of one SETTING alone the BEST is the last, too.
         BeamSetter one = Scores.beam("8 0", "16 10", "8 -10", "8 0");
         edges.due("one alone is ALLOWED", 1, one.group(0, 5));

@@ -100,6 +100,9 @@ final class WhatIfEdges {
         BeamSetter far = Scores.beamOfKnee(4, "32 -12", "16 12");
         edges.due("from the lowest to the highest", 12, far.wish(0));
         edges.due("from the highest to the lowest", -12, far.wish(1));
+        // 13, -14 would be less ugly still, were there such POSITIONS.
+        edges.due("not beyond the highest", 10, Scores.beamOfKnee(23, "8 10", "16 12").wish(1));
+        edges.due("not beyond the lowest", -12, Scores.beamOfKnee(11, "32 -1", "8 2", "8 11", "16 -12").wish(0));
         for (int p = -12; p <= 12; p++) {
             for (int q = -12; q <= 12; q++) {
                 BeamSetter x = Scores.beamOfKnee(9, "8 " + p, "16 " + q);
@@ -539,6 +542,11 @@ final class WhatIfEdges {
         // KNEE 4: none is ALLOWED of 0 and 4.
         edges.due("ahead", -2, Scores.beamOfKnee(4, "8 0", "8 4", "8 0", "8 0").ifCut(0, 2));
         edges.due("behind", -2, Scores.beamOfKnee(4, "8 0", "8 0", "8 0", "8 4").ifCut(0, 2));
+        // 0 and 1 have UGLINESS 1: a stem of 15.
+        edges.due("ahead, 1 behind", -2, Scores.beamOfKnee(4, "8 0", "8 4", "8 0", "8 1").ifCut(0, 2));
+        edges.due("behind, 1 ahead", -2, Scores.beamOfKnee(4, "8 0", "8 1", "8 0", "8 4").ifCut(0, 2));
+        edges.due("1 and 1", 2, Scores.beamOfKnee(4, "8 0", "8 1", "8 0", "8 1").ifCut(0, 2));
+        edges.due("1 and 0", 1, Scores.beamOfKnee(4, "8 0", "8 1", "8 0", "8 0").ifCut(0, 2));
         edges.due("neither", -2, Scores.beamOfKnee(4, "8 0", "8 4", "8 0", "8 4").ifCut(0, 2));
         edges.due("both", 0, Scores.beamOfKnee(4, "8 0", "8 0", "8 0", "8 0").ifCut(0, 2));
         edges.due("of the whole none is", 0, Scores.beamOfKnee(4, "8 0", "8 4").ifCut(0, 1));
@@ -598,6 +606,11 @@ final class WhatIfEdges {
                 tied.ugliness(0, 3, 3, 0) + tied.ugliness(1, 10, 10, 0));
         edges.dueAll("GROUP 0 of the least RANK", smootheds(tied, 8, 0), 1, 1, 2, 0);
         edges.dueAll("GROUP 1 then", smootheds(tied, 8, 1), 9, 9, 4, 2);
+        // By 4 and 2 GROUP 0 can't have its BEST: 5, 5 and 7, 7 are the longest stems that cost no more.
+        edges.dueAll("GROUP 0 by 4", smootheds(tied, 4, 0), 5, 5, 10, 4);
+        edges.dueAll("GROUP 1 by 4", smootheds(tied, 4, 1), 9, 9, 4, 2);
+        edges.dueAll("GROUP 0 by 2", smootheds(tied, 2, 0), 7, 7, 14, 7);
+        edges.dueAll("GROUP 1 by 2", smootheds(tied, 2, 1), 9, 9, 4, 2);
         // The same behind a GROUP that goes with both: GROUP 1 has the least RANK of what is left.
         BeamSetter three = Checks.setter("note 8 -12;note 8 -12;note 8 -12;note 8 -12;note 8 -2;note 8 -2;");
         edges.dueAll("GROUP 1 of three", smootheds(three, 8, 1), 1, 1, 2, 0);
@@ -627,6 +640,10 @@ final class WhatIfEdges {
         BeamSetter most = Checks.setter("metre 1 4;" + Checks.repeated("note 8 0;", 64));
         edges.due("32 GROUPS", 0, most.smooth(0, 0));
         edges.dueAll("the last of 32", smootheds(most, 0, 31), -14, -14, 0, 0);
+        // By KNEE 17 RISE is not KNEED: the BEST one costs what it costs so.
+        BeamSetter noKnee = Checks.setter("knee 17;" + Scores.RISE);
+        edges.due("by another KNEE, UGLINESS", noKnee.total(0), noKnee.smooth(0, 0));
+        edges.due("by another KNEE, not more", 0, noKnee.smooth(0, 1));
         // What lies between GROUPS changes nothing.
         edges.due("a rest between", 16, Checks.setter("note 8 2;note 8 2;rest 4;note 8 6;note 8 6;").smooth(0, 0));
 
@@ -661,6 +678,8 @@ final class WhatIfEdges {
         edges.dueAll("sloping", smootheds(Checks.setter(Scores.RISE), 0, 0), -4, 0, 16, 0);
         edges.dueAll("the only one", smootheds(Checks.setter(STEEP), 0, 0), 10, 2, 139, 0);
         for (int n = 8; n <= 14; n++) {
+            edges.due("together by " + n, far.smooth(n, 0), far.smoothed(n, 0, 2) + far.smoothed(n, 1, 2)
+                    + far.smoothed(n, 2, 2));
             for (int g = 0; g < 3; g++) {
                 int[] own = smootheds(far, n, g);
                 edges.due("RANK by " + n + " of " + g, far.rank(g, own[0], own[1]), own[3]);
