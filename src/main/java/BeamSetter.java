@@ -13,6 +13,8 @@ public final class BeamSetter {
     private static final int MOST_BEATS = 12;
     private static final int MOST_BEAMS = 3;
     private static final int WIDEST_STEP = 120;
+    private static final int MOST_INT = 0x7fffffff;
+    private static final long MOST_LONG = 0x7fffffffffffffffL;
 
     private final Tape tape;
     private final Reader reader;
@@ -274,7 +276,7 @@ public final class BeamSetter {
         tryShifted(0);
         int own = piece.heads[i];
         int wished = NOTHING;
-        int least = Integer.MAX_VALUE;
+        int least = MOST_INT;
         // From near to far, the lower one first: so a later one must be truly better.
         for (int step = 0; step <= 4 * FARTHEST + 1; step++) {
             int position = own + outward(step);
@@ -304,7 +306,7 @@ public final class BeamSetter {
             return NOTHING;
         }
         int found = 0;
-        long least = Long.MAX_VALUE;
+        long least = MOST_LONG;
         for (int step = 0; step <= 2 * FARTHEST; step++) {
             if (tryShifted(outward(step))) {
                 totals.take(piece, tried, piece.knee, group);
@@ -426,7 +428,7 @@ public final class BeamSetter {
             return NONE;
         }
         int found = NOT_THERE;
-        int least = Integer.MAX_VALUE;
+        int least = MOST_INT;
         for (int k = 1; k < piece.lengths[g]; k++) {
             int ugly = uglinessOfCut(g, k);
             if (ugly != NOT_THERE && ugly < least) {
@@ -1183,7 +1185,7 @@ public final class BeamSetter {
      * several, so that of two SETTINGS that of the lesser key has the lesser RANK.
      */
     private static final class Group {
-        static final long NO_KEY = Long.MAX_VALUE;
+        static final long NO_KEY = MOST_LONG;
         static final int HIGHEST = 60;
         private static final int STEEPEST = 8;
         private static final int MOST_WANT = 5;
@@ -1253,7 +1255,7 @@ public final class BeamSetter {
             markTaken();
             int found = NOTHING;
             int greatest = knee;
-            int nearest = Integer.MAX_VALUE;
+            int nearest = MOST_INT;
             int before = NOTHING;
             // From below, so that of gaps alike the lowest one stays.
             for (int p = -FARTHEST; p <= FARTHEST; p++) {

@@ -7,7 +7,8 @@ import java.util.TreeMap;
 
 /**
  * Checks of edges, each under the sentence of the document that it holds the class to. A sentence that the document
- * doesn't say, a sentence without a check behind it, and words of promises and terms under no check are wrong, too.
+ * doesn't say, a sentence without a check behind it, and words of promises, terms and "What it is" under no check are
+ * wrong, too.
  */
 final class Edges {
     /** From the checkout, where .ci/run goes ahead of all else. */
@@ -92,8 +93,9 @@ final class Edges {
         name("What it is", words);
     }
 
-    /** No word of the promises (behind the names of the calls) and of the terms may be under no check. */
+    /** No word of the promises (behind the names of the calls), the terms and "What it is" may be under no check. */
     private void everyWordIsNamed() {
+        wordsAreNamed("What it is", 0);
         for (int n = 1; n <= LAST_PROMISE; n++) {
             String section = sections.getOrDefault("Promise " + n, "");
             wordsAreNamed("Promise " + n, section.indexOf("`:") + 2);

@@ -2,6 +2,7 @@
 public final class EdgesTest {
     public static void main(String[] args) {
         Edges edges = new Edges();
+        new WholeEdges(edges).check();
         new TextEdges(edges).check();
         new BeamEdges(edges).check();
         new GroupEdges(edges).check();

@@ -1,10 +1,15 @@
+import java.io.IOException;
 import java.lang.reflect.Constructor;
 import java.lang.reflect.Field;
 import java.lang.reflect.Method;
 import java.lang.reflect.Modifier;
+import java.nio.file.Files;
+import java.nio.file.Path;
 import java.util.Arrays;
 import java.util.Set;
 import java.util.TreeSet;
+import java.util.regex.Matcher;
+import java.util.regex.Pattern;
 
 /** The members of the class are those of the document's public face, and no others can be seen. */
 public final class FaceTest {
@@ -15,6 +20,40 @@ public final class FaceTest {
         "single 2", "smooth 2", "smoothed 3", "stem 2", "stretch 4", "stretches 2", "text 1", "total 1", "touch 3",
         "ugliness 4", "undo 0", "want 1", "wish 1"};
 
+    private static final Path DOCUMENT = Path.of("..", "shared", "DOC.md");
+    private static final Pattern METHOD = Pattern.compile("    public int (\\w+)\\(((?:int \\w+(?:, )?)*)\\)"
+            + "(?: throws (\\w+(?:, \\w+)*))?;");
+    private static final Pattern CONSTANT = Pattern.compile("    public static final int (\\w+) = (-?\\d+);");
+
+    /** "The public face" of the document, line by line: each is one of the class. */
+    private static void holdAgainstDocument(Checks checks) throws IOException {
+        String text = Files.readString(DOCUMENT);
+        String face = text.substring(text.indexOf("## The public face"), text.indexOf("## Terms"));
+        Set<String> methods = new TreeSet<>();
+        for (String line : face.split("\n")) {
+            Matcher method = METHOD.matcher(line);
+            Matcher constant = CONSTANT.matcher(line);
+            if (method.matches()) {
+                int many = method.group(2).isEmpty() ? 0 : method.group(2).split(", ").length;
+                String thrown = method.group(3) == null ? "" : " " + method.group(3).replace(",", "");
+                methods.add(method.group(1) + " " + many + thrown);
+            } else if (constant.matches()) {
+                checks.due("constant " + line, 1, isConstant(constant.group(1), constant.group(2)) ? 1 : 0);
+            } else {
+                boolean known = line.isEmpty() || line.equals("}") || line.startsWith("```") || line.startsWith("## ")
+                        || line.equals("import java.util.NoSuchElementException;")
+                        || line.equals("public final class BeamSetter {") || line.equals("    public BeamSetter();");
+                checks.due("the document's face has no other line: " + line, 1, known ? 1 : 0);
+            }
+        }
+        checks.due("the document's face is " + methods, 1, methods.equals(new TreeSet<>(Arrays.asList(FACE))) ? 1 : 0);
+    }
+
+    private static boolean isConstant(String name, String value) {
+        return name.equals("NONE") && value.equals("" + BeamSetter.NONE)
+                || name.equals("NOTHING") && value.equals("" + BeamSetter.NOTHING);
+    }
+
     private static String told(Method m) {
         StringBuilder text = new StringBuilder(m.getName()).append(' ').append(m.getParameterCount());
         for (Class<?> thrown : m.getExceptionTypes()) {
@@ -23,8 +62,11 @@ public final class FaceTest {
         return text.toString();
     }
 
-    public static void main(String[] args) {
+    public static void main(String[] args) throws IOException {
         Checks checks = new Checks();
+        if (Files.isReadable(DOCUMENT)) {
+            holdAgainstDocument(checks);
+        }
         Class<?> made = BeamSetter.class;
         checks.due("public final", Modifier.PUBLIC | Modifier.FINAL, made.getModifiers());
         Set<String> seen = new TreeSet<>();

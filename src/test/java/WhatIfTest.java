@@ -91,9 +91,8 @@ public final class WhatIfTest {
         CHECKS.due("by none one is ALLOWED", NOTHING, Checks.setter("knee 24;split 4;note 8 12;note 8 0;"
                 + "note 8 -12;note 8 0;").wish(3));
         // Every answer is at most as ugly as any other POSITION, and the nearest of those as ugly.
-        BeamSetter z = Checks.setter(MANY);
         for (int i = 0; i < 8; i++) {
-            nearestIsWished(z, i);
+            nearestIsWished(Checks.setter(MANY), i);
         }
     }
 
